@@ -141,7 +141,7 @@ public final class LentShades {
             if (night > 0) {
                 then = takings.behind(then, 1);
             }
-            if (then.hasParts(cloth, a, PARTS)) {
+            if (then.hasAtLeast(cloth, a)) {
                 return night;
             }
         }
@@ -292,7 +292,7 @@ public final class LentShades {
             otherColours[thing] = v;
             takings.reckon(house, house.hours, otherColours);
             Shades then = takings.behind(house.now, n);
-            if (then.hasParts(cloth, a, PARTS)) {
+            if (then.hasAtLeast(cloth, a)) {
                 return v;
             }
         }
@@ -403,7 +403,7 @@ public final class LentShades {
             }
         }
         for (int t = 0; t < house.things; t++) {
-            if ((set >> CLOTHS + t & 1) != 0) {
+            if ((set >> (CLOTHS + t) & 1) != 0) {
                 sum.coef[UNIT] += (long) b * house.colour[t];
             }
         }
@@ -422,7 +422,7 @@ public final class LentShades {
             for (int k = 0; k < house.borrowers; k++) {
                 int[] wish = house.wish[k];
                 boolean wanted = wish[1] <= night && night <= wish[2];
-                if (wanted && !hasParts(then, wish[0], wish[3])) {
+                if (wanted && !serves(then, wish)) {
                     content &= ~(1 << k);
                 }
             }
@@ -430,9 +430,9 @@ public final class LentShades {
         return content;
     }
 
-    // A house that was read may have fewer cloths than the borrowers were told of.
-    private boolean hasParts(Shades then, int cloth, int parts) {
-        return house.hasCloth(cloth) && then.hasParts(cloth, parts, PARTS);
+    private boolean serves(Shades then, int[] wish) {
+        // A house that was read may have fewer cloths than the borrowers were told of.
+        return house.hasCloth(wish[0]) && then.hasAtLeast(wish[0], wish[3]);
     }
 
     private boolean isNewShade(int i) {
@@ -534,8 +534,12 @@ public final class LentShades {
             return some ? 1 : 0;
         }
 
-        boolean hasParts(int cloth, int least, int most) {
-            return compare(cloth, UNIT, least) >= 0 && compare(cloth, UNIT, most) <= 0;
+        boolean hasAtLeast(int cloth, int parts) {
+            return compare(cloth, UNIT, parts) >= 0;
+        }
+
+        boolean hasAtMost(int cloth, int parts) {
+            return compare(cloth, UNIT, parts) <= 0;
         }
 
         /** All rows have been written one limb longer than before limbs: is that one needed? */
@@ -617,7 +621,7 @@ public final class LentShades {
                 belows = 1;
                 return;
             }
-            int common = greatestDivisor(times, remainder(above, aboves, times));
+            int common = Math.max(1, greatestDivisor(times, remainder(above, aboves, times)));
             divide(above, aboves, common);
             sum.begin();
             sum.coef[UNIT] = (long) PARTS * (times / common);
@@ -1073,44 +1077,42 @@ public final class LentShades {
             if (reached(house, takings)) {
                 return 0;
             }
-            for (first = 0; first < MOVES; first++) {
-                if (changes(house, first)) {
-                    put(first, hoursOf(first));
-                    if (reached(house, takings)) {
-                        return 1;
-                    }
-                    putBack(first, house);
-                }
+            first = reachedByOneMore(house, takings, 0);
+            if (first != NONE) {
+                return 1;
             }
-            for (first = 0; first < MOVES; first++) {
-                if (changes(house, first)) {
-                    put(first, hoursOf(first));
-                    if (reachedByOneMore(house, takings)) {
+            for (int m = 0; m < MOVES; m++) {
+                if (changes(house, m)) {
+                    put(m, hoursOf(m));
+                    first = m;
+                    // Both moves of a pair stand side by side; the second is of a later pair.
+                    second = reachedByOneMore(house, takings, (m | 1) + 1);
+                    if (second != NONE) {
                         return 2;
                     }
-                    putBack(first, house);
+                    putBack(m, house);
                 }
             }
             return NONE;
         }
 
-        private boolean reachedByOneMore(House house, Takings takings) {
-            for (second = (first | 1) + 1; second < MOVES; second++) {
-                if (changes(house, second)) {
-                    put(second, hoursOf(second));
+        private int reachedByOneMore(House house, Takings takings, int start) {
+            for (int m = start; m < MOVES; m++) {
+                if (changes(house, m)) {
+                    put(m, hoursOf(m));
                     if (reached(house, takings)) {
-                        return true;
+                        return m;
                     }
-                    putBack(second, house);
+                    putBack(m, house);
                 }
             }
-            return false;
+            return NONE;
         }
 
         private boolean reached(House house, Takings takings) {
             takings.reckon(house, hours, house.colour);
             Shades then = takings.behind(house.now, nights);
-            return then.hasParts(goal, fewestParts, mostParts);
+            return then.hasAtLeast(goal, fewestParts) && then.hasAtMost(goal, mostParts);
         }
 
         /** A move that changes nothing for the cloth is never one of the fewest. */
@@ -1196,7 +1198,7 @@ public final class LentShades {
             takings.reckon(house, hours, house.colour);
             Shades then = takings.behind(house.now, 1);
             for (int i = 0; i < house.cloths; i++) {
-                if (!then.hasParts(i, house.least[i], house.most[i])) {
+                if (!then.hasAtLeast(i, house.least[i]) || !then.hasAtMost(i, house.most[i])) {
                     return false;
                 }
             }

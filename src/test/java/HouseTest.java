@@ -186,6 +186,13 @@ public final class HouseTest {
         reads("x", -10);
         reads("cloths 0 0 0;", -10);
         reads("Cloth 0 0 0;", -10);
+        reads("clotha 0 0 0;", -10);
+        reads("clothz 0 0 0;", -10);
+        reads("thing{1;", -15);
+        reads("thing`1;", -15);
+        reads("thing /1;", -16);
+        reads("thing :;", -16);
+        reads("thing 9;thing 09;thing 9:", -34);
         reads("1", -10);
         reads(";", -10);
         reads("  clot 0;", -12);

@@ -225,6 +225,15 @@ public final class NightsTest {
         // By way of the other cloth, in two nights.
         due("14 afar", x.moves(1, 3, 3, 2, 0), 1);
         due("14 afar", x.moves(1, 3, 3, 2, 1), 1503);
+        LentShades far = Check.house("cloth 0 0 0;cloth 2 0 0;cloth 1 3 0;thing 7;touch 0 2 1;touch 0 1 3;");
+        // By a touch of its own it has 21 by 4; by one of the third cloth's, 21 by 8.
+        due("14 a pair without it", far.moves(0, 2, 3, 2, 0), 1);
+        due("14 a pair without it", far.moves(0, 2, 3, 2, 1), 2403);
+        due("14 its own pair", far.moves(0, 5, 6, 2, 1), 403);
+        due("14 too far for a night", far.moves(0, 2, 3, 1, 0), NONE);
+        due("14 21 by 6", far.moves(0, 3, 4, 1, 0), 2);
+        due("14 21 by 6", far.moves(0, 3, 4, 1, 1), 203);
+        due("14 21 by 6", far.moves(0, 3, 4, 1, 2), 403);
         long before = x.digest();
         int[][] wrong = {{2, 0, 1, 1, 0}, {-1, 0, 1, 1, 0}, {0, -1, 1, 1, 0}, {0, 5, 4, 1, 0}, {0, 0, 13, 1, 0},
             {0, 0, 1, 0, 0}, {0, 0, 1, 4, 0}, {0, 0, 1, 1, -1}, {0, 0, 1, 1, 3}};
@@ -369,6 +378,12 @@ public final class NightsTest {
         due("20 count", x.count(5), 0);
         due("21 none", x.lent(1), 0);
         due("19 anew", x.borrower(0, 0, 12, 0), 0);
+        LentShades last = Check.house("cloth 1 3 12;thing 0;touch 0 4 1;");
+        // (4/5) to the 11th is above 1/12, to the 12th it is below.
+        last.borrower(0, 11, 11, 1);
+        last.borrower(0, 12, 12, 1);
+        due("21 the twelfth night counts", last.lent(1), 1);
+        due("12 so red from the end", last.soRed(0, 1), 0);
     }
 
     private static void colours() {
