@@ -489,16 +489,14 @@ public final class LentShades {
     private static final class Shades {
         final int[] limb = new int[ROWS * LIMBS];
         // So many limbs hold twelve times UNIT, and so every shade; always fewer than LIMBS.
-        int used = 1;
+        int used;
 
         Shades() {
-            limb[UNIT * LIMBS] = 1;
+            reset();
         }
 
+        /** Rows of cloths that are not there may hold anything. */
         void reset() {
-            for (int k = 0; k < ROWS * LIMBS; k++) {
-                limb[k] = 0;
-            }
             limb[UNIT * LIMBS] = 1;
             used = 1;
         }
@@ -623,6 +621,7 @@ public final class LentShades {
             }
             int common = Math.max(1, greatestDivisor(times, remainder(above, aboves, times)));
             divide(above, aboves, common);
+            aboves = trimmed(above, aboves);
             sum.begin();
             sum.coef[UNIT] = (long) PARTS * (times / common);
             sum.write(of, below, 0);
@@ -640,7 +639,6 @@ public final class LentShades {
                     belows = trimmed(below, belows);
                 }
             }
-            aboves = trimmed(above, aboves);
         }
 
         private boolean bothDivide(int p) {

@@ -219,6 +219,7 @@ public final class HouseTest {
         reads("thing 1;touch 4 4", -26);
         reads("thing 1;touch 5", -24);
         reads("thing 1;thing 1;touch 4 5", -34);
+        reads("thing 1;thing 1;touch 5 4", -34);
         reads("cloth 0 0 0;touch 0 0", -30);
         reads("cloth 0 0 0;touch 0 1", -30);
         reads("cloth 0 0 0;touch 8 0", -28);

@@ -250,12 +250,17 @@ public final class NightsTest {
         due("14 the second", x.moves(2, 4, 4, 1, 2), NONE);
         LentShades y = Check.house("cloth 0 0 6;cloth 0 0 0;thing 12;thing 12;touch 0 1 1;");
         // 0 by 1, 12 by 3 or 6; without the other cloth 12 alone.
-        due("14 0 ahead of 3", y.moves(0, 6, 9, 1, 1), 100);
+        due("14 without what it touches it stays", y.moves(0, 6, 9, 1, 1), 100);
         due("14 two", y.moves(0, 12, 12, 1, 0), 2);
         due("14 the first of two", y.moves(0, 12, 12, 1, 1), 100);
         due("14 the second of two", y.moves(0, 12, 12, 1, 2), 403);
         due("14 two things", y.moves(0, 10, 11, 1, 1), 403);
         due("14 two things", y.moves(0, 10, 11, 1, 2), 503);
+        LentShades z = Check.house("cloth 1 0 11;cloth 1 1 6;thing 8;touch 0 1 1;touch 0 4 3;");
+        // Behind three nights some 7.96, by 0 hours with the other cloth 8.05, by 3 hours 8.11.
+        due("14 0 ahead of 3", z.moves(0, 8, 10, 3, 1), 100);
+        z.touch(0, 1, 3);
+        due("14 by 3, too", z.moves(0, 8, 10, 3, 0), 0);
     }
 
     private static void chests() {
@@ -303,6 +308,13 @@ public final class NightsTest {
         due("16 by the first", x.chest(NONE), 4);
         due("16 first", x.chest(0), 0);
         due("16 second", x.chest(1), 2);
+        LentShades four = Check.house("cloth 0 0 12;cloth 0 0 0;cloth 0 0 6;cloth 0 0 3;touch 3 1 1;");
+        four.bound(3, 12, 12);
+        due("16 at an end, by the first", four.chest(NONE), 4);
+        int[] order = {1, 2, 0, 3};
+        for (int i = 0; i < 4; i++) {
+            due("16 the first order", four.chest(i), order[i]);
+        }
         LentShades fast = Check.house("cloth 1 2 0;cloth 0 0 12;");
         // Its own by 3, the other one by 3.
         fast.bound(0, 6, 6);

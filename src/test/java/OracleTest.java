@@ -179,7 +179,7 @@ public final class OracleTest {
         int n = some(12);
         switch (random.nextInt(9)) {
             case 0: {
-                if (random.nextInt(5) > 0) {
+                if (random.nextInt(3) > 0) {
                     return true;
                 }
                 int nights = some(2) + 1;

@@ -47,6 +47,29 @@ public final class WhatThereIsTest {
         BigInteger below = BigInteger.valueOf(7).pow(24);
         limbs("above", x, 0, below.subtract(BigInteger.ONE));
         limbs("below", x, 1, below);
+        // However often a house is read and slept in, what is below begins anew.
+        Check.type(x, "cloth 3 3 0;thing 12;thing 12;touch 0 4 3;touch 0 5 3;cloth 0 0 0;");
+        for (int k = 0; k < 15; k++) {
+            x.read();
+            for (int night = 0; night < 12; night++) {
+                x.sleep();
+            }
+        }
+        x.shade(0, 12);
+        below = BigInteger.valueOf(4).pow(24);
+        limbs("above anew", x, 0, below.subtract(BigInteger.ONE));
+        limbs("below anew", x, 1, below);
+        // What is below comes just to the limbs' base: 16 to the 6th by 4, then by 16.
+        LentShades y = Check.house("cloth 3 3 0;thing 12;thing 12;touch 0 4 3;touch 0 5 3;");
+        for (int k = 0; k < 6; k++) {
+            y.sleep();
+        }
+        y.touch(0, 4, 0);
+        y.touch(0, 5, 0);
+        y.sleep();
+        y.touch(0, 4, 3);
+        y.touch(0, 5, 3);
+        CHECK.shade(y, 0, 1, 16383, 16384);
     }
 
     private static void limbs(String what, LentShades x, int which, BigInteger want) {
