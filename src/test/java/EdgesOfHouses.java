@@ -14,6 +14,7 @@ final class EdgesOfHouses {
         t.hours();
         t.plainAndFast();
         t.whiteAndThirsty();
+        t.greatestOfAll();
         t.vain();
         t.items();
         t.touchItems();
@@ -261,7 +262,49 @@ final class EdgesOfHouses {
         });
     }
 
+    private void greatestOfAll() {
+        term("of THINGS by twice the HOURS.", "37 in all: four THIRSTY of HOLD 3 touch all NUMBERS for 3 HOURS", () -> {
+            LentShades x = Edges.house("cloth3 3 0;cloth3 3 5;cloth3 3 7;cloth3 3 12;thing12;thing1;thing7;thing11;");
+            for (int i = 0; i < 4; i++) {
+                for (int n = i + 1; n < 8; n++) {
+                    x.touch(i, n, 3);
+                }
+            }
+            int[] shades = {0, 5, 7, 12};
+            for (int i = 0; i < 4; i++) {
+                e.shade(x, i, 1, 4 * shades[i] + 3 * (24 - shades[i]) + 6 * 31, 12 * 37);
+            }
+            LentShades red = Edges.house("cloth3 3 12;cloth3 3 12;cloth3 3 12;cloth3 3 12;thing12;thing12;thing12;thing12;");
+            for (int i = 0; i < 4; i++) {
+                for (int n = i + 1; n < 8; n++) {
+                    red.touch(i, n, 3);
+                }
+            }
+            e.shade(red, 3, 12, 1, 1);
+        });
+    }
+
     private void vain() {
+        term("4 VAIN (under WHITE): the greatest SHADE or COLOUR of what it touches", "from each CLOTH to each other one", () -> {
+            for (int i = 0; i < 4; i++) {
+                for (int j = 0; j < 4; j++) {
+                    LentShades x = new LentShades();
+                    for (int k = 0; k < 4; k++) {
+                        x.cloth(k == i ? 4 : k == j ? 3 : 0, 1, k == i ? 2 : 5 + k);
+                    }
+                    if (i != j) {
+                        x.touch(i, j, 1);
+                        e.shade(x, i, 1, 5 + j, 12);
+                        x.touch(i, j, 0);
+                    }
+                    e.shade(x, i, 1, 2, 12);
+                    for (int k = 0; k < 4; k++) {
+                        x.touch(i, k, 3);
+                    }
+                    e.shade(x, i, 1, i == 3 ? 7 : 8, 12);
+                }
+            }
+        });
         term("4 VAIN (under WHITE): the greatest SHADE or COLOUR of what it touches", "of cloths, of things, of both, alike ones", () -> {
             LentShades x = Edges.house("cloth 4 3 12;cloth 0 0 3;cloth 1 0 5;thing 4;thing 6;touch 0 1 1;");
             e.shade(x, 0, 1, 3, 12);
@@ -484,6 +527,13 @@ final class EdgesOfHouses {
         });
         term("(a word that is none,", "shorter, longer, spoiled, where a number is due", () -> {
             reads("clot 0 0 0;", -10);
+            reads("loth 0 0 0;", -10);
+            reads("xloth 0 0 0;", -10);
+            reads("clotx 0 0 0;", -10);
+            reads("xhing 1;", -10);
+            reads("thinx 1;", -10);
+            reads("xouch 0 1 1;", -10);
+            reads("toucx 0 1 1;", -10);
             reads("cloths 0 0 0;", -10);
             reads("clorh 0 0 0;", -10);
             reads("thin 1;", -10);

@@ -24,6 +24,7 @@ final class EdgesOfShades {
         t.undoAndImages();
         t.status();
         t.fraction();
+        t.lowestTerms();
         t.longest();
         t.refused();
     }
@@ -127,6 +128,31 @@ final class EdgesOfShades {
             e.due("rest at 1", t.rest(0), 1);
             e.fraction("rest at 1", t, 12, 12);
         });
+        term("SHADES that stay as they are in a NIGHT, if there are just ones such", "four CLOTHS that take of one another; a lesser HOUSE behind it", () -> {
+            String text = "cloth 0 0 1;cloth 1 2 2;cloth 3 1 3;cloth 2 0 4;thing 11;thing 5;thing 0;";
+            String lesser = "cloth 0 0 7;cloth 1 3 5;thing 4;touch 1 4 1;";
+            LentShades x = house(text);
+            Oracle y = told(text);
+            int[] hours = {3, 1, 2, 1, 0, 2, 2, 3, 1, 1, 3, 0, 1, 2, 3, 1, 2, 0};
+            int k = 0;
+            for (int i = 0; i < 4; i++) {
+                for (int n = i + 1; n < 7; n++) {
+                    e.due("touch", x.touch(i, n, hours[k]), y.touch(i, n, hours[k]));
+                    k++;
+                }
+            }
+            for (int i = 0; i < 4; i++) {
+                e.due("rest", x.rest(i), 1);
+                y.rest(i);
+                e.due("rest(" + i + ")", x.digest(), y.digest());
+            }
+            Edges.type(x, lesser);
+            e.due("read", x.read(), 4);
+            e.due("rest", x.rest(1), 1);
+            e.fraction("rest of a lesser HOUSE", x, 4, 12);
+            e.due("rest", x.rest(0), 1);
+            e.fraction("rest of a lesser HOUSE", x, 7, 12);
+        });
         term("(of CLOTHS that take nothing: what they have now)", "alone, by a WHITE, behind a NIGHT; another one takes of it", () -> {
             LentShades x = house("cloth 0 3 7;cloth 2 0 4;cloth 0 0 1;touch 0 1 2;touch 1 2 3;");
             e.due("rest", x.rest(0), 1);
@@ -156,6 +182,16 @@ final class EdgesOfShades {
             e.due("a thing for 1 HOUR is enough", x.rest(1), 1);
             e.fraction("rest", x, 3, 12);
         });
+    }
+
+    private static Oracle told(String text) {
+        Oracle y = new Oracle();
+        for (int k = 0; k < text.length(); k++) {
+            y.type(text.charAt(k), 1);
+        }
+        y.read();
+        y.clear();
+        return y;
     }
 
     private void none(String text) {
@@ -211,6 +247,26 @@ final class EdgesOfShades {
             moves(y, of(0, 1, 5, 3), NONE, NONE, NONE);
             e.due("the HOURS stay as told", y.touch(0, 4, 1), 0);
             e.due("the HOURS stay as told", y.touch(0, 5, 1), 0);
+        });
+        term("a MOVE puts HOURS of two NUMBERS (one a CLOTH) to 0 or 3, ahead of all:", "of two others, where 2 or 3 NIGHTS bring it on, 1 does not", () -> {
+            // The WHITE takes what the other one has a night later; of it none takes.
+            LentShades x = house("cloth 2 0 6;cloth 0 0 6;thing 12;touch 0 1 1;");
+            moves(x, of(0, 12, 12, 1), 2, 100, 403);
+            moves(x, of(0, 12, 12, 2), 1, 1403, -5);
+            moves(x, of(0, 12, 12, 3), 1, 1403, -5);
+            LentShades y = house("cloth 0 0 6;cloth 2 0 6;thing 12;touch 0 1 1;");
+            moves(y, of(1, 12, 12, 1), 2, 100, 1403);
+            moves(y, of(1, 12, 12, 2), 1, 403, -5);
+            moves(y, of(1, 12, 12, 3), 1, 403, -5);
+            // From the third cloth 9.6 come by the third night; from the thing itself 10.5 would.
+            LentShades z = house("cloth 2 0 6;cloth 0 0 6;cloth 1 0 6;thing 12;touch 0 1 1;touch 2 1 1;");
+            moves(z, of(0, 7, 12, 1), 1, 403, -5);
+            moves(z, of(0, 9, 10, 3), 1, 2403, -5);
+            // The CLOTH is the greater one of the pair.
+            LentShades w = house("cloth 0 0 12;cloth 0 0 0;");
+            moves(w, of(1, 12, 12, 1), 1, 103, -5);
+            w.touch(0, 1, 2);
+            moves(w, of(1, 0, 0, 1), 1, 100, -5);
         });
         term("the fewest MOVES (0 .. 2; of unlike pairs);", "0, 1, 2 where more would do, too; three would be needed", () -> {
             LentShades x = house("cloth 0 0 0;thing 12;thing 12;thing 12;thing 0;touch 0 7 3;");
@@ -477,6 +533,15 @@ final class EdgesOfShades {
             x.borrower(1, 5, 5, 0);
             lent(x, 13);
             x.refuse();
+            // The later ones come first.
+            x.borrower(0, 7, 12, 0);
+            x.borrower(0, 0, 6, 0);
+            lent(x, 3);
+            x.refuse();
+            x.borrower(0, 6, 12, 0);
+            x.borrower(0, 0, 6, 0);
+            lent(x, 1);
+            x.refuse();
             x.borrower(0, 3, 3, 0);
             x.borrower(0, 3, 3, 0);
             x.borrower(0, 0, 12, 0);
@@ -519,6 +584,10 @@ final class EdgesOfShades {
             e.due("none", new LentShades().colours(), 0);
             e.due("one CLOTH", house("cloth 0 0 0;").colours(), 1);
             e.due("one THING", house("thing 0;").colours(), 1);
+            e.due("one CLOTH and a THING alike", house("cloth 0 0 3;thing 3;").colours(), 1);
+            e.due("a THING as the first CLOTH", house("cloth 0 0 3;cloth 0 0 4;thing 3;").colours(), 2);
+            e.due("a THING as the last CLOTH", house("cloth 0 0 3;cloth 0 0 4;thing 4;").colours(), 2);
+            e.due("a THING as the first THING", house("cloth 0 0 3;thing 4;thing 5;thing 4;").colours(), 3);
             e.due("alike", house("cloth 0 0 3;cloth 1 0 3;cloth 2 0 3;cloth 4 0 3;thing 3;thing 3;thing 3;thing 3;").colours(), 1);
             e.due("unlike", house("cloth 0 0 0;cloth 1 0 1;cloth 2 0 2;cloth 4 0 3;thing 4;thing 5;thing 11;thing 12;").colours(), 8);
             LentShades x = house("cloth 1 0 12;cloth 0 0 4;thing 0;thing 4;touch 0 4 2;");
@@ -551,6 +620,15 @@ final class EdgesOfShades {
             e.due("twelve nights", y.least(0, 0, 12, 11), 12);
             e.due("twelve nights", y.least(0, 0, 12, 10), 11);
             e.due("0 parts", y.least(0, 0, 12, 0), 0);
+            // The other ones keep their own.
+            LentShades z = house("cloth 0 0 0;thing 12;thing 6;thing 0;touch 0 4 1;touch 0 5 1;touch 0 6 1;");
+            int[][] due = {{0, 0, 0}, {0, 0, 0}, {0, 0, 0}, {3, 0, 0}, {6, 0, 0}, {9, 3, 0}, {12, 6, 0}, {NONE, 9, 3}, {NONE, 12, 6},
+                {NONE, NONE, 9}, {NONE, NONE, 12}, {NONE, NONE, NONE}, {NONE, NONE, NONE}};
+            for (int a = 0; a <= 12; a++) {
+                for (int t = 0; t < 3; t++) {
+                    e.due("least(" + t + ", 0, 1, " + a + ")", z.least(t, 0, 1, a), due[a][t]);
+                }
+            }
         });
         term("behind n NIGHTS; none.", "12 are not enough; the thing is far off", () -> {
             LentShades y = halves();
@@ -640,6 +718,36 @@ final class EdgesOfShades {
             e.due("none may be undone", z.undo(), NO);
             e.shade(z, 0, 0, 0, 12);
         });
+        term("what may be undone they keep;", "the SHADES of each of 1 to 6 NIGHTS, KINDS, HOLDS, behind another HOUSE and its NIGHTS", () -> {
+            for (int slept = 1; slept <= 8; slept++) {
+                LentShades x = lateHouse(slept);
+                LentShades y = lateHouse(slept);
+                for (int times = 0; times < 2; times++) {
+                    x.clear();
+                    Edges.type(x, "cloth 0 3 5;cloth 2 0 6;cloth 4 1 7;thing 12;thing 1;touch 0 4 1;touch 1 5 3;");
+                    x.read();
+                    for (int k = 0; k < 8; k++) {
+                        x.sleep();
+                    }
+                    x.clear();
+                    e.due("from", x.from(0), 1);
+                }
+                x.shade(0, 0);
+                y.shade(0, 0);
+                e.alike("behind " + slept, x, y);
+            }
+        });
+    }
+
+    private static LentShades lateHouse(int slept) {
+        LentShades x = house("cloth 1 1 12;cloth 3 2 0;thing 0;thing 9;touch 0 4 1;touch 1 4 2;touch 1 5 1;");
+        x.bound(1, 2, 8);
+        x.borrower(1, 0, 2, 4);
+        for (int k = 0; k < slept; k++) {
+            x.sleep();
+        }
+        x.image(0);
+        return x;
     }
 
     private void status() {
@@ -743,17 +851,73 @@ final class EdgesOfShades {
         });
     }
 
+    private void lowestTerms() {
+        term("lowest terms, below above 0.", "each prime that CLOTHS are divided by, to 37", () -> {
+            // Of its own by HOLD and 1, of a cloth by h, of things by twice the sum of theirs: all red.
+            primes(0, 0, 3, 2, 0, 0, 11);
+            primes(0, 0, 3, 3, 0, 0, 13);
+            primes(0, 0, 3, 3, 2, 0, 17);
+            primes(0, 0, 3, 3, 3, 0, 19);
+            primes(0, 0, 3, 3, 3, 2, 23);
+            primes(3, 1, 3, 3, 3, 3, 29);
+            primes(3, 3, 3, 3, 3, 3, 31);
+            primes(1, 0, 1, 0, 0, 0, 4);
+            primes(0, 0, 1, 0, 0, 0, 3);
+            primes(0, 0, 2, 0, 0, 0, 5);
+            primes(0, 0, 3, 0, 0, 0, 7);
+        });
+        term("lowest terms, below above 0.", "REST, divided by more than the greatest of these", () -> {
+            // 48, 22, 9, 3 of the colours by 82: 123 by 82, a prime of 41 goes out.
+            LentShades x = house("cloth 0 0 0;cloth 0 0 0;thing 1;thing 0;thing 7;thing 4;touch 0 1 3;touch 0 4 3;touch 0 5 1;"
+                    + "touch 1 4 3;touch 1 5 3;touch 1 6 3;touch 1 7 1;");
+            e.due("rest", x.rest(0), 1);
+            e.fraction("123 by 82 parts", x, 1, 8);
+            x.colour(1, 12);
+            e.due("rest", x.rest(0), 1);
+            e.fraction("387 by 82 parts", x, 387, 12 * 82);
+        });
+        term("Its limbs are digits to the base 1073741824, the lowest first.", "REST of less than the base, by 9 more", () -> {
+            LentShades x = house("cloth 0 0 0;cloth 2 0 0;cloth 1 0 5;thing 6;thing 0;touch 2 4 3;");
+            x.thing(6);
+            x.touch(2, 6, 1);
+            for (int k = 0; k < 11; k++) {
+                x.sleep();
+            }
+            e.shade(x, 2, 0, 292968749, 12 * 48828125L);
+            x.touch(2, 4, 0);
+            x.touch(2, 6, 0);
+            x.touch(0, 2, 1);
+            x.touch(0, 5, 1);
+            x.sleep();
+            e.shade(x, 0, 0, 292968749, 1171875000);
+            x.touch(0, 2, 0);
+            x.touch(0, 5, 0);
+            x.touch(0, 1, 3);
+            x.touch(2, 5, 3);
+            e.due("rest", x.rest(1), 1);
+            e.fraction("what the first one has", x, 292968749, 1171875000);
+        });
+    }
+
+    /** A THIRSTY cloth, another one, four things, all red: it stays at 1 by 1. */
+    private void primes(int hold, int h, int a, int b, int c, int d, int whole) {
+        e.due("in all", hold + 1 + h + 2 * (a + b + c + d), whole);
+        LentShades x = house("cloth 3 " + hold + " 12;cloth 0 0 12;thing 12;thing 12;thing 12;thing 12;touch 0 1 " + h + ";touch 0 4 " + a
+                + ";touch 0 5 " + b + ";touch 0 6 " + c + ";touch 0 7 " + d + ";");
+        for (int n = 0; n <= 12; n += 3) {
+            e.shade(x, 0, n, 1, 1);
+        }
+        x.sleep();
+        e.shade(x, 0, 0, 1, 1);
+        e.shade(x, 0, 12, 1, 1);
+    }
+
     private void longest() {
         term("Its limbs are digits to the base 1073741824, the lowest first.", "16 of them: by 37, 35, 34, 33 in each of 24 NIGHTS", () -> {
             // All cloths and things touch for 3 hours; 4, 4, 3, 4 of their own, 9 of cloths, 24, 22, 22, 20 of things.
             String text = "cloth3 3 0;cloth3 3 5;cloth3 2 7;cloth3 3 12;thing12;thing1;thing7;thing11;";
             LentShades x = house(text);
-            Oracle y = new Oracle();
-            for (int k = 0; k < text.length(); k++) {
-                y.type(text.charAt(k), 1);
-            }
-            y.read();
-            y.clear();
+            Oracle y = told(text);
             int[] lastHours = {3, 2, 2, 1};
             for (int i = 0; i < 4; i++) {
                 for (int n = i + 1; n < 8; n++) {
