@@ -633,7 +633,8 @@ final class EdgesOfHouses {
 
     private void replaced() {
         term("A HOUSE that is read takes the place of all CLOTHS, THINGS, HOURS;", "a greater, a lesser, an empty one", () -> {
-            for (String text : new String[] {"cloth 2 3 7;", "cloth 0 0 1;cloth 0 0 2;cloth 0 0 3;cloth 0 0 4;thing 1;thing 2;", " "}) {
+            for (String text : new String[] {"cloth 2 3 7;", "cloth 0 0 1;cloth 0 0 2;cloth 0 0 3;cloth 0 0 4;thing 1;thing 2;", " ",
+                "cloth 1 1 7;cloth 4 0 3;thing 2;touch 0 4 1;touch 1 4 2;"}) {
                 LentShades x = Edges.full();
                 x.clear();
                 Edges.type(x, text);
@@ -644,6 +645,10 @@ final class EdgesOfHouses {
                 }
                 x.refuse();
                 y.refuse();
+                for (int k = 0; k < y.count(0); k++) {
+                    e.due("shade", x.shade(k, 12), y.shade(k, 12));
+                    e.due("digest", x.digest(), y.digest());
+                }
                 // All HOURS of what comes behind it are 0, too, and LEAST, MOST are as at first.
                 for (int k = y.count(0); k < 4; k++) {
                     x.cloth(0, 0, 0);

@@ -25,6 +25,7 @@ final class EdgesOfShades {
         t.status();
         t.fraction();
         t.lowestTerms();
+        t.amidLongOnes();
         t.longest();
         t.refused();
     }
@@ -152,6 +153,13 @@ final class EdgesOfShades {
             e.fraction("rest of a lesser HOUSE", x, 4, 12);
             e.due("rest", x.rest(0), 1);
             e.fraction("rest of a lesser HOUSE", x, 7, 12);
+            // The third one, of its own alone, is no more.
+            LentShades z = house("cloth 0 0 1;cloth 0 0 2;cloth 1 0 3;");
+            e.due("not just one", z.rest(0), NO);
+            Edges.type(z, lesser);
+            z.read();
+            e.due("rest", z.rest(1), 1);
+            e.fraction("rest of a lesser HOUSE", z, 4, 12);
         });
         term("(of CLOTHS that take nothing: what they have now)", "alone, by a WHITE, behind a NIGHT; another one takes of it", () -> {
             LentShades x = house("cloth 0 3 7;cloth 2 0 4;cloth 0 0 1;touch 0 1 2;touch 1 2 3;");
@@ -910,6 +918,40 @@ final class EdgesOfShades {
         x.sleep();
         e.shade(x, 0, 0, 1, 1);
         e.shade(x, 0, 12, 1, 1);
+    }
+
+    private void amidLongOnes() {
+        term("a SHADE at first (0 .. 12 parts of twelve)", "each of the thirteen, behind 12 NIGHTS of long fractions", () -> {
+            String text = "cloth3 3 0;cloth3 2 12;thing12;thing1;touch 0 1 1;touch 0 4 3;touch 0 5 1;touch 1 4 2;touch 1 5 3;";
+            for (int v = 0; v <= 12; v++) {
+                LentShades x = house(text);
+                Oracle y = told(text);
+                for (int k = 0; k < 12; k++) {
+                    e.due("sleep", x.sleep(), y.sleep());
+                }
+                e.due("cloth", x.cloth(1, 0, v), y.cloth(1, 0, v));
+                e.due("thing", x.thing(v), y.thing(v));
+                e.shade(x, 2, 0, v, 12);
+                e.shade(x, 2, 12, v, 12);
+                y.shade(2, 12);
+                e.due("so red", x.soRed(2, v), 0);
+                e.due("no redder", v == 12 ? NONE : x.soRed(2, v + 1), NONE);
+                e.due("colours", x.colours(), v == 12 || v == 1 ? 4 : 5);
+                e.due("sets", x.morning(v, 12, NONE), y.morning(v, 12, NONE));
+                e.due("a set", x.morning(v, 12, v == 1 || v == 12 ? 1 : 0), v == 12 ? 16 : v == 1 ? 32 : 4);
+                e.due("in all", x.surely(v, 12), y.surely(v, 12));
+                for (int i = 0; i < 2; i++) {
+                    for (int n = 0; n <= 12; n += 4) {
+                        e.due("shade", x.shade(i, n), y.shade(i, n));
+                        e.due("digest", x.digest(), y.digest());
+                        for (int a = 0; a <= 12; a += 3) {
+                            e.due("soRed", x.soRed(i, a), y.soRed(i, a));
+                            e.due("least", x.least(2, i, n, a), y.least(2, i, n, a));
+                        }
+                    }
+                }
+            }
+        });
     }
 
     private void longest() {
