@@ -12,6 +12,7 @@ public final class EdgesTest {
         EdgesOfHouseCalls.tell(e);
         EdgesOfNightCalls.tell(e);
         EdgesOfTellingCalls.tell(e);
+        EdgesOfLastOnes.tell(e);
         e.nothingIsLeftOut();
         e.end("EdgesTest");
     }
